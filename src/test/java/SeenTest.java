@@ -1,0 +1,132 @@
+/** Promises 21 to 25: what was SEEN, and the WORLDS in which it would be so. */
+public final class SeenTest {
+    private static final Checks checks = new Checks();
+
+    public static void main(String[] args) {
+        see();
+        forget();
+        worlds();
+        whatHasNone();
+        must();
+        liars();
+        nothingChanges();
+        checks.end();
+    }
+
+    private static void due(String call, long got, long want) {
+        checks.due(call, got, want);
+    }
+
+    private static void see() {
+        LieForce force = Checks.laid("s0,0,0,0;s0,1,0,1;");
+        for (int s : Checks.outside(0, 1)) due("21 see(" + s + ")", force.see(s, true), LieForce.BAD);
+        for (int i = 1; i <= 6; i++) due("21 see " + i, force.see(i % 2, i % 2 == 0), i);
+        due("21 full", force.see(0, false), LieForce.FULL);
+        due("21 bad comes ahead of full", force.see(2, false), LieForce.BAD);
+        due("21 six", force.count(6), 6);
+        due("21 all six count", force.worlds(1), 2);
+    }
+
+    private static void forget() {
+        LieForce force = Checks.laid("s0,0,0,0;s0,1,0,1;");
+        due("22 none", force.forget(), 0);
+        force.see(0, false);
+        force.see(1, true);
+        due("22 two", force.forget(), 2);
+        due("22 nothing is seen", force.count(6), 0);
+        due("22 every world", force.worlds(0), 64);
+        due("22 seen anew", force.see(1, false), 1);
+        due("22 the new one alone", force.worlds(1), 2);
+    }
+
+    private static void worlds() {
+        LieForce force = Checks.laid("s0,0,0,0;s1,1,8,1;s4,3,4,2;s0,0,0,3;");
+        due("23 all", force.worlds(0), 64);
+        due("23 the lowest of all", force.worlds(1), 0);
+        for (int what : Checks.outside(0, 1)) due("23 worlds(" + what + ")", force.worlds(what), LieForce.BAD);
+        force.see(0, false);
+        due("23 half", force.worlds(0), 32);
+        due("23 the lowest of half", force.worlds(1), 1);
+        force.see(1, false);
+        due("23 an eighth", force.worlds(0), 8);
+        due("23 the lowest of an eighth", force.worlds(1), 3);
+        force.see(2, true);
+        due("23 four", force.worlds(0), 4);
+        force.see(2, false);
+        due("23 both can not be", force.worlds(0), 0);
+        due("23 no lowest", force.worlds(1), LieForce.NONE);
+        due("23 bad comes ahead of none", force.worlds(2), LieForce.BAD);
+        force.forget();
+        force.turn(0);
+        force.see(0, true);
+        due("23 whatever the facts are now", force.worlds(0), 32);
+    }
+
+    private static void whatHasNone() {
+        LieForce force = Checks.laid("s0,0,0,0;s1,1,7,1;");
+        force.see(0, true);
+        due("23 not yet withdrawn", force.worlds(0), 32);
+        force.withdraw(0);
+        due("23 withdrawn, seen with one", force.worlds(0), 0);
+        force.forget();
+        force.see(0, false);
+        due("23 withdrawn, seen with none", force.worlds(0), 64);
+        force.undo();
+        due("23 withdrawn no more", force.worlds(0), 32);
+        force.forget();
+        force.say(0, 6, 0, 2);
+        force.see(2, true);
+        due("23 said", force.worlds(1), 1);
+        force.undo();
+        due("23 undone, seen with one", force.worlds(0), 0);
+        force.forget();
+        force.say(0, 6, 0, 2);
+        force.see(2, false);
+        due("23 said again", force.worlds(0), 32);
+        force.undo();
+        due("23 undone, seen with none", force.worlds(0), 64);
+        due("23 it is seen still", force.count(6), 1);
+    }
+
+    private static void must() {
+        LieForce force = Checks.laid("s1,0,7,0;s0,2,0,0;");
+        for (int f = 0; f < 6; f++) due("24 all worlds " + f, force.must(f), 2);
+        for (int f : Checks.outside(0, 5)) due("24 must(" + f + ")", force.must(f), LieForce.BAD);
+        force.see(0, false);
+        int[] want = {1, 0, 2, 2, 2, 2};
+        for (int f = 0; f < 6; f++) due("24 must(" + f + ")", force.must(f), want[f]);
+        force.see(0, true);
+        due("24 no worlds", force.must(0), LieForce.NONE);
+        due("24 bad comes ahead of none", force.must(6), LieForce.BAD);
+    }
+
+    private static void liars() {
+        LieForce force = Checks.laid("s0,0,0,0;s0,6,0,1;s0,1,0,1;s0,2,0,1;s1,3,9,2;");
+        due("25 two at least", force.liars(0), 2);
+        due("25 a person is one, for all lies", force.liars(1), 1);
+        for (int what : Checks.outside(0, 1)) due("25 liars(" + what + ")", force.liars(what), LieForce.BAD);
+        force.withdraw(4);
+        due("25 one withdrawn", force.liars(0), 1);
+        due("25 by the lowest world", force.liars(1), 1);
+        force.see(0, true);
+        due("25 seen", force.liars(0), 1);
+        due("25 by the lowest so seen", force.liars(1), 6);
+        force.see(1, true);
+        due("25 none", force.liars(0), LieForce.NONE);
+        due("25 no world", force.liars(1), LieForce.NONE);
+        due("25 bad comes ahead of none", force.liars(2), LieForce.BAD);
+        LieForce honest = Checks.laid("s0,5,0,0;");
+        due("25 no liars", honest.liars(0), 0);
+        due("25 the honest world", honest.liars(1), 32);
+    }
+
+    private static void nothingChanges() {
+        LieForce force = new LieForce();
+        String stood = Checks.stand(force);
+        force.see(9, true);
+        force.worlds(0);
+        force.must(0);
+        force.liars(0);
+        due("21 to 25 change nothing", Checks.stand(force).equals(stood) ? 1 : 0, 1);
+    }
+}
