@@ -343,7 +343,7 @@ public final class LieForce {
     // ---- worlds: sets of FACTS, a bit for each
 
     private static long worldsOfLiteral(int literal) {
-        if (!isLiteral(literal)) return 0L;
+        if (literal < 0 || literal >= LITERALS) return 0L;
         return literal < FACTS ? WORLDS_OF_FACT[literal] : ~WORLDS_OF_FACT[literal - FACTS];
     }
 
@@ -427,7 +427,7 @@ public final class LieForce {
         }
 
         boolean isWithdrawn(int s) {
-            return isBitOf(withdrawn, s);
+            return ((withdrawn >> s) & 1) == 1;
         }
 
         boolean isSoIn(int s, int world) {
@@ -726,17 +726,17 @@ public final class LieForce {
             force.empty();
             int place = 0;
             for (int item = 0; item < MOST_LETTERS && place < length; item++) {
-                int end = readNumbers(letters, length, place);
-                if (end == NONE || !putItem(letters[place], force)) return place;
+                int letter = letterAt(letters, length, place);
+                int end = readNumbers(letters, length, place + 1, numbersOf(letter));
+                if (end == NONE || !putItem(letter, force)) return place;
                 place = end;
             }
             return NONE;
         }
 
-        /** Takes the numbers of the ITEM that begins at this place: where the ITEM has its end. */
-        private int readNumbers(char[] letters, int length, int place) {
-            int due = numbersOf(letterAt(letters, length, place));
-            int at = place + 1;
+        /** Takes as many numbers as are due from this place on: where their ITEM has its end; NONE. */
+        private int readNumbers(char[] letters, int length, int place, int due) {
+            int at = place;
             for (int i = 0; i < due && i < MOST_NUMBERS; i++) {
                 int figures = figuresAt(letters, length, at);
                 if (figures == 0) return NONE;
@@ -773,7 +773,7 @@ public final class LieForce {
         }
 
         /** Tells the force what the ITEM with these numbers says; false if that can not be. */
-        private boolean putItem(char letter, Force force) {
+        private boolean putItem(int letter, Force force) {
             if (letter == 'f') {
                 force.turnFact(numbers[0]);
                 return isFact(numbers[0]);

@@ -73,6 +73,10 @@ public final class ComingTest {
         due("16 none", force.core(), LieForce.NONE);
         due("16 the lowest of its size", Checks.laid("s0,2,0,0;s0,0,0,0;s0,6,0,0;s0,8,0,0;").core(), 6);
         due("16 the fewest ahead of the lowest", Checks.laid("s0,0,0,0;s0,6,0,0;s1,1,7,0;").core(), 4);
+        String nine = "s2,7,0,0;s2,10,7,0;s2,3,0,0;s2,11,8,0;s2,4,1,0;s2,10,9,0;s2,4,2,0;s2,6,5,0;s2,1,11,0;";
+        due("16 nine", Checks.laid(nine).core(), 511);
+        due("17 one of nine", Checks.laid(nine).cut(), 1);
+        due("18 eight of nine", Checks.laid(nine).truest(0), 8);
         due("16 five", Checks.laid("s0,0,0,0;s3,0,1,0;s3,1,2,0;s3,2,3,0;s3,3,6,0;s0,5,0,0;").core(), 31);
     }
 
@@ -86,6 +90,9 @@ public final class ComingTest {
         due("17 the fewest", Checks.laid("s0,0,0,0;s1,0,1,0;s0,6,0,0;").cut(), 4);
         due("17 the lowest", Checks.laid("s0,6,0,0;s0,0,0,0;s0,7,0,0;s0,1,0,0;").cut(), 5);
         due("17 those that never are so", Checks.laid("s1,0,6,0;s0,0,0,0;s4,1,1,0;").cut(), 5);
+        String never = "s1,0,6,0;s1,1,7,0;s1,2,8,0;s1,3,9,0;s1,0,6,0;s1,1,7,0;s1,2,8,0;s1,3,9,0;";
+        due("17 eight of nine", Checks.laid(never + "s0,0,0,0;").cut(), 255);
+        due("17 nine of nine", Checks.laid(never + "s1,0,6,0;").cut(), 511);
         LieForce none = Checks.laid("s0,0,0,0;");
         none.withdraw(0);
         due("17 all are withdrawn", none.cut(), 0);
@@ -133,6 +140,14 @@ public final class ComingTest {
         due("20 turned", force.trial(1, 0), 2);
         due("20 turned, which first", force.trial(1, 1), 0);
         due("20 the lowest", Checks.laid("f3;s0,3,0,0;f4;s0,4,0,1;").trial(1, 1), 3);
+        LieForce last = Checks.laid("f0;f1;f2;f3;f4;f5;s1,0,5,0;s1,1,5,1;s0,5,0,2;");
+        due("20 from the last world", last.trial(1, 0), 3);
+        due("20 which first there", last.trial(1, 1), 5);
+        due("20 two turns there, one taken back", last.trial(2, 0), 0);
+        due("20 three turns there", last.trial(3, 0), 3);
+        LieForce toTheLast = Checks.laid("f0;f1;f2;f3;f4;s0,11,0,0;");
+        due("20 to the last world", toTheLast.trial(1, 0), 1);
+        due("20 which first to it", toTheLast.trial(1, 1), 5);
         due("20 both of two turns", Checks.laid("f3;s0,3,0,0;f4;s0,4,0,1;").trial(3, 0), 1);
     }
 

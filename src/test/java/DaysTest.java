@@ -86,6 +86,9 @@ public final class DaysTest {
         due("10 full, with those withdrawn", force.say(0, 0, 0, 0), LieForce.FULL);
         due("10 bad comes ahead of full", force.say(0, 0, 0, 6), LieForce.BAD);
         due("10 how many", force.count(0), 9);
+        int undoable = force.undo();
+        force.say(0, 0, 0, 0);
+        due("10 full is nothing to undo", force.count(7), undoable);
     }
 
     private static void sayingPlain() {

@@ -115,6 +115,12 @@ public final class SeenTest {
         due("25 none", force.liars(0), LieForce.NONE);
         due("25 no world", force.liars(1), LieForce.NONE);
         due("25 bad comes ahead of none", force.liars(2), LieForce.BAD);
+        String six = "s1,0,6,0;s1,0,6,1;s1,0,6,2;s1,0,6,3;s1,0,6,4;";
+        due("25 five liars", Checks.laid(six).liars(0), 5);
+        due("25 five in all worlds", Checks.laid(six).liars(1), 0);
+        due("25 six liars", Checks.laid(six + "s1,0,6,5;").liars(0), 6);
+        due("25 six in all worlds", Checks.laid(six + "s1,0,6,5;").liars(1), 0);
+        due("25 none in the world 0", Checks.laid("s0,6,0,0;").liars(1), 0);
         LieForce honest = Checks.laid("s0,5,0,0;");
         due("25 no liars", honest.liars(0), 0);
         due("25 the honest world", honest.liars(1), 32);

@@ -9,6 +9,7 @@ public final class TextTest {
         faults();
         laying();
         layingClearsWhatWas();
+        layingAfterLookingAhead();
         sayings();
         truths();
         facts();
@@ -57,6 +58,11 @@ public final class TextTest {
         Checks.write(force, "f1;");
         due("3 written anew", force.fault(), LieForce.NONE);
         due("3 how long anew", force.wipe(), 3);
+        Checks.write(force, "f0;f1;s0,0,0,0;");
+        force.wipe();
+        Checks.write(force, "f0");
+        due("3 nothing is left of what was", force.fault(), 0);
+        due("3 nothing to lay", force.lay(), LieForce.NO);
     }
 
     private static void faults() {
@@ -68,7 +74,7 @@ public final class TextTest {
         String[] first = {
             "f6;", "f;", "f", "f0", "f0,", "f0,0;", "f000;", "f-1;", "f 0;", "F0;", "0;", ";", ",", " ", "r0;", "r21;", "r;", "r00;",
             "s5,0,0,0;", "s0,12,0,0;", "s0,0,12,0;", "s1,0,12,0;", "s0,0,0,6;", "s0,0,0;", "s0,0,0,0,0;", "s0,0,0,0", "s0;0,0,0;",
-            "s0,,0,0;", "s,0,0,0;", "s0,0,0,;", "s0,000,0,0;", "s", "sf0;", "f0:", "f/;", "r3,", "f0f1;"
+            "s0,,0,0;", "s,0,0,0;", "s0,0,0,;", "s0,000,0,0;", "s", "sf0;", "f0:", "f/;", "f:;", "r:;", "r;;", "s0,:,0,0;", "s0,0,/,0;", "r1:;", "r3,", "f0f1;"
         };
         for (String text : first) {
             due("4 " + text, Checks.written(text).fault(), 0);
@@ -122,6 +128,24 @@ public final class TextTest {
         due("5 nothing kept", force.back(), LieForce.NO);
         due("5 nothing undone", force.undo(), LieForce.NO);
         due("5 nothing seen", force.forget(), 0);
+    }
+
+    /** What was asked of days to come, or read ahead, leaves nothing in what is laid then. */
+    private static void layingAfterLookingAhead() {
+        LieForce force = Checks.laid("f3;s1,0,6,0;s1,1,7,1;s1,2,8,2;s1,3,9,3;r2;");
+        force.behind(60);
+        force.year(5, 60, 0);
+        force.pass(1);
+        force.fall(0);
+        force.wipe();
+        Checks.write(force, "s0,0,0,0;s0,1,0,1;s0,2,0,2;s0,3,0,3;");
+        due("5 laid anew", force.lay(), 4);
+        LieForce alone = Checks.laid("s0,0,0,0;s0,1,0,1;s0,2,0,2;s0,3,0,3;");
+        due("5 as if alone", Checks.stand(force).equals(Checks.stand(alone)) ? 1 : 0, 1);
+        force.pass(4);
+        due("5 by the usual term", force.count(3), 0);
+        force.pass(1);
+        due("5 served by it", force.count(3), 4);
     }
 
     private static void sayings() {
