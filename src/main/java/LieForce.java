@@ -178,7 +178,7 @@ public final class LieForce {
     }
 
     public int married() {
-        return now.mostPairs(now.liesIn(now.facts), 0);
+        return mostPairs(now, now.liesIn(now.facts), 0);
     }
 
     public int trial(int n, int what) {
@@ -368,6 +368,21 @@ public final class LieForce {
             if (isAmong(worlds, world)) return world;
         }
         return NONE;
+    }
+
+    // ---- pairs
+
+    /** The most pairs among the free ones from s on; s, one more at each level, bounds the depth. */
+    private static int mostPairs(Force force, int free, int s) {
+        if (s >= force.sayings || s >= MOST_SAYINGS) return 0;
+        int most = mostPairs(force, free, s + 1);
+        if (!isBitOf(free, s)) return most;
+        for (int t = s + 1; t < force.sayings; t++) {
+            if (isBitOf(free, t) && force.mayMarry(s, t)) {
+                most = Math.max(most, 1 + mostPairs(force, free & ~(1 << t), s + 1));
+            }
+        }
+        return most;
     }
 
     /** A force as it stands at one time: all that can be UNDONE, and that is KEPT. */
@@ -590,19 +605,6 @@ public final class LieForce {
                 }
             }
             return cut;
-        }
-
-        /** The most pairs among the free ones from s on; s, one more at each level, bounds the depth. */
-        int mostPairs(int free, int s) {
-            if (s >= sayings) return 0;
-            int most = mostPairs(free, s + 1);
-            if (!isBitOf(free, s)) return most;
-            for (int t = s + 1; t < sayings; t++) {
-                if (isBitOf(free, t) && mayMarry(s, t)) {
-                    most = Math.max(most, 1 + mostPairs(free & ~(1 << t), s + 1));
-                }
-            }
-            return most;
         }
     }
 

@@ -36,7 +36,8 @@ final class Checks {
         StringBuilder all = new StringBuilder();
         for (int what = 0; what <= 9; what++) all.append(force.count(what)).append(' ');
         for (int f = 0; f < 6; f++) all.append(force.fact(f));
-        for (int s = 0; s < force.count(0); s++) {
+        int sayings = force.count(0);
+        for (int s = 0; s < sayings; s++) {
             all.append(" |");
             for (int what = 0; what <= 6; what++) all.append(' ').append(force.saying(s, what));
         }

@@ -4,13 +4,17 @@ public final class ComingTest {
 
     public static void main(String[] args) {
         behind();
+        behindTheDayOfTheFall();
         fall();
         fallOnALaterDay();
+        fallAtTheBounds();
         core();
         cut();
         truest();
+        lastOfNine();
         married();
         trial();
+        trialFirstOfAll();
         trialTurns();
         nothingChanges();
         checks.end();
@@ -33,6 +37,14 @@ public final class ComingTest {
         due("14 one withdrawn", force.behind(60), 3);
         force.turn(0);
         due("14 facts turned", force.behind(0), 10);
+    }
+
+    private static void behindTheDayOfTheFall() {
+        LieForce force = Checks.laid("s0,0,0,0;".repeat(7) + "s0,0,0,0;s1,0,6,0;r20;");
+        due("14 all nine", force.behind(19), 511);
+        due("14 without two of them", force.behind(20), 254);
+        due("14 still without", force.behind(60), 254);
+        due("14 one day ahead", force.behind(0), 511);
     }
 
     private static void fall() {
@@ -62,6 +74,24 @@ public final class ComingTest {
         due("15 the later day", force.fall(1), 4);
         due("14 ahead of it", force.behind(3), 7);
         due("14 behind it", force.behind(4), 1);
+    }
+
+    private static void fallAtTheBounds() {
+        String seven = "s0,6,0,0;".repeat(7);
+        LieForce last = Checks.laid(seven + "s0,1,0,0;s1,7,0,0;r20;");
+        due("15 the last two", last.fall(0), 78);
+        due("15 after the longest term", last.fall(1), 20);
+        LieForce first = Checks.laid("s1,0,1,0;s1,0,7,0;" + seven + "r1;");
+        due("15 the first two", first.fall(0), 1);
+        due("15 after the shortest term", first.fall(1), 1);
+        last.pass(19);
+        due("15 the next day", last.fall(1), 1);
+        last.pass(1);
+        due("15 they have fallen", last.fall(1), LieForce.NONE);
+        LieForce far = Checks.laid("s0,1,0,0;" + seven + "s1,7,0,0;r5;");
+        due("15 the first and the last", far.fall(0), 8);
+        due("15 after the usual term", far.fall(1), 5);
+        due("15 one that is so does not fall", Checks.laid("s0,6,0,0;s1,0,1,0;r1;").fall(0), LieForce.NONE);
     }
 
     private static void core() {
@@ -113,6 +143,18 @@ public final class ComingTest {
         due("18 none is left", none.truest(0) + none.truest(1), 0);
     }
 
+    private static void lastOfNine() {
+        String eight = "s0,0,0,0;".repeat(8);
+        due("16 the ninth alone", Checks.laid(eight + "s1,1,7,0;").core(), 256);
+        due("17 the ninth alone", Checks.laid(eight + "s1,1,7,0;").cut(), 256);
+        due("16 the last two", Checks.laid("s0,0,0,0;".repeat(7) + "s0,1,0,0;s0,7,0,0;").core(), 384);
+        due("17 the lower of the last two", Checks.laid("s0,0,0,0;".repeat(7) + "s0,1,0,0;s0,7,0,0;").cut(), 128);
+        due("18 nine of nine", Checks.laid(eight + "s0,11,0,0;").truest(0), 9);
+        due("18 none of nine", Checks.laid("s1,1,7,0;".repeat(9)).truest(0), 0);
+        due("18 by no facts", Checks.laid("s1,1,7,0;".repeat(9)).truest(1), 0);
+        due("16 the lowest of nine", Checks.laid("s1,1,7,0;".repeat(9)).core(), 1);
+    }
+
     private static void married() {
         due("19 unlike persons", Checks.laid("s0,0,0,0;s0,1,0,0;s0,2,0,1;s0,8,0,2;").married(), 1);
         due("19 one person", Checks.laid("s0,0,0,0;s0,1,0,0;").married(), 0);
@@ -125,6 +167,8 @@ public final class ComingTest {
         due("19 without those withdrawn", nine.married(), 3);
         nine.turn(0);
         due("19 no policemen", nine.married(), 0);
+        due("19 one policeman", Checks.laid("s0,0,0,0;").married(), 0);
+        due("19 the last two", Checks.laid("s0,6,0,0;".repeat(7) + "s0,0,0,4;s0,1,0,5;").married(), 1);
     }
 
     private static void trial() {
@@ -151,32 +195,43 @@ public final class ComingTest {
         due("20 both of two turns", Checks.laid("f3;s0,3,0,0;f4;s0,4,0,1;").trial(3, 0), 1);
     }
 
-    /** Worked out by going through all turns, each one on the force itself. */
+    /** None is told ahead of the lowest FACT, a lower FACT ahead of a higher one, FACT 5 as well as FACT 0. */
+    private static void trialFirstOfAll() {
+        due("20 none, for all is as good", Checks.laid("s1,0,6,0;").trial(1, 1), LieForce.NONE);
+        due("20 none, with four turns", Checks.laid("s1,0,6,0;").trial(4, 1), LieForce.NONE);
+        due("20 the lowest one", Checks.laid("f0;f5;s1,0,5,0;").trial(1, 1), 0);
+        due("20 the highest one", Checks.laid("f5;s0,5,0,0;").trial(1, 1), 5);
+        due("20 the only one", Checks.laid("f2;s2,2,5,0;").trial(1, 1), 2);
+        due("20 as many as there can be", Checks.laid("f0;" + "s0,0,0,0;".repeat(9)).trial(1, 0), 9);
+        due("20 as few as there can be", Checks.laid("s2,0,6,0;").trial(4, 0), 0);
+    }
+
+    /** Worked out by going through all turns, each way on a force of its own. */
     private static void trialTurns() {
-        LieForce force = new LieForce();
-        for (int n = 1; n <= 3; n++) {
-            int wanted = played(force, n, true);
-            due("20 played " + n, force.trial(n, 0), wanted);
-            int first = played(force, n - 1, false) == wanted ? LieForce.NONE : -1;
-            for (int f = 0; f < 6 && first == -1; f++) {
-                force.turn(f);
-                if (played(force, n - 1, false) == wanted) first = f;
-                force.turn(f);
-            }
-            due("20 played first " + n, force.trial(n, 1), first);
+        for (int n = 1; n <= 4; n++) {
+            int wanted = played("", n, true);
+            due("20 played " + n, new LieForce().trial(n, 0), wanted);
+            int first = LieForce.NONE;
+            for (int f = 5; f >= 0; f--) if (played("" + f, n - 1, false) == wanted) first = f;
+            if (played("", n - 1, false) == wanted) first = LieForce.NONE;
+            due("20 played first " + n, new LieForce().trial(n, 1), first);
         }
     }
 
-    private static int played(LieForce force, int left, boolean most) {
-        if (left == 0) return force.count(2);
-        int best = played(force, left - 1, !most);
+    private static int played(String turned, int left, boolean most) {
+        if (left == 0) return behindTurns(turned);
+        int best = played(turned, left - 1, !most);
         for (int f = 0; f < 6; f++) {
-            force.turn(f);
-            int other = played(force, left - 1, !most);
+            int other = played(turned + f, left - 1, !most);
             best = most ? Math.max(best, other) : Math.min(best, other);
-            force.turn(f);
         }
         return best;
+    }
+
+    private static int behindTurns(String turned) {
+        LieForce force = new LieForce();
+        for (int i = 0; i < turned.length(); i++) force.turn(turned.charAt(i) - '0');
+        return force.count(2);
     }
 
     private static void nothingChanges() {

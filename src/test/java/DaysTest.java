@@ -4,14 +4,20 @@ public final class DaysTest {
 
     public static void main(String[] args) {
         passing();
+        comingToBeOne();
+        servingAtLeastR();
         fallingInOrder();
         servingLong();
         sayingOne();
+        sayingAtTheBounds();
         sayingPlain();
         withdrawing();
+        withdrawingADayAhead();
         turning();
         undoing();
         undoingTheLastEight();
+        undoingManyDaysAtOnce();
+        undoingASaying();
         whatIsNoneToUndo();
         checks.end();
     }
@@ -33,6 +39,43 @@ public final class DaysTest {
         due("9 pass(30)", force.pass(30), 31);
         due("9 all that go by", force.count(4), 31);
         due("9 two times", force.count(7), 2);
+    }
+
+    /** A POLICEMAN has served no DAYS when he comes to be one, however that comes. */
+    private static void comingToBeOne() {
+        LieForce force = Checks.laid("s0,0,0,0;s0,6,0,1;r9;");
+        due("2 laid", force.saying(0, 6), 0);
+        due("2 one that is so", force.saying(1, 6), LieForce.NONE);
+        force.pass(3);
+        due("2 said", force.saying(force.say(0, 1, 0, 2), 6), 0);
+        due("2 the one that was there", force.saying(0, 6), 3);
+        force.pass(2);
+        force.turn(0);
+        due("2 by a fact", force.saying(1, 6), 0);
+        due("2 gone by it", force.saying(0, 6), LieForce.NONE);
+        due("2 untouched by it", force.saying(2, 6), 2);
+        force.pass(1);
+        force.turn(0);
+        due("2 come anew", force.saying(0, 6), 0);
+        due("2 gone anew", force.saying(1, 6), LieForce.NONE);
+        force.withdraw(2);
+        due("2 gone, for it is withdrawn", force.saying(2, 6), LieForce.NONE);
+        force.pass(1);
+        due("2 a day more", force.saying(0, 6), 1);
+    }
+
+    /** Two that CLASH FALL THROUGH on the DAY on which the later one has served R DAYS. */
+    private static void servingAtLeastR() {
+        for (int r = 1; r <= 20; r++) {
+            LieForce force = Checks.laid("s1,0,1,0;r" + r + ";");
+            force.pass(1);
+            force.say(1, 0, 7, 0);
+            if (r > 1) force.pass(r - 1);
+            due("9 one day ahead of " + r, force.count(1), 0);
+            force.pass(1);
+            due("9 on day " + r, force.count(1), 2);
+            due("9 none is left of " + r, force.count(2), 0);
+        }
     }
 
     private static void fallingInOrder() {
@@ -91,6 +134,23 @@ public final class DaysTest {
         due("10 full is nothing to undo", force.count(7), undoable);
     }
 
+    private static void sayingAtTheBounds() {
+        for (int kind = 0; kind <= 4; kind++) {
+            LieForce force = Checks.laid("s0,0,0,0;");
+            due("10 the lowest of kind " + kind, force.say(kind, 0, 0, 0), 1);
+            due("10 the highest of kind " + kind, force.say(kind, 11, 11, 5), 2);
+            int[] want = {kind, 11, kind == 0 ? LieForce.NONE : 11, 5};
+            for (int what = 0; what < 4; what++) due("10 kind " + kind + " saying(2, " + what + ")", force.saying(2, what), want[what]);
+        }
+        LieForce nine = Checks.laid("s0,0,0,0;".repeat(9));
+        due("10 nine are laid", nine.say(1, 0, 0, 0), LieForce.FULL);
+        due("10 plain looks at no b, also when full", nine.say(0, 0, 12, 0), LieForce.FULL);
+        due("10 the others look at b, also when full", nine.say(1, 0, 12, 0), LieForce.BAD);
+        LieForce eight = Checks.laid("s0,0,0,0;".repeat(8));
+        due("10 the ninth", eight.say(1, 0, 0, 0), 8);
+        due("10 no tenth", eight.say(1, 0, 0, 0), LieForce.FULL);
+    }
+
     private static void sayingPlain() {
         LieForce force = Checks.laid("s0,0,0,0;");
         int s = 1;
@@ -115,6 +175,22 @@ public final class DaysTest {
         force.turn(0);
         due("11 he is gone", force.withdraw(0), 0);
         due("11 all are withdrawn", force.count(1), 3);
+    }
+
+    /** He who has served R DAYS less one may be sent away, he who has served R not. */
+    private static void withdrawingADayAhead() {
+        int[] terms = {1, 2, 5, 20};
+        for (int r : terms) {
+            LieForce force = Checks.laid("s0,0,0,0;s0,0,0,0;s0,6,0,0;r" + r + ";");
+            if (r > 1) force.pass(r - 1);
+            due("11 a day ahead of " + r, force.withdraw(0), 1);
+            force.pass(1);
+            due("11 on day " + r, force.withdraw(1), LieForce.NO);
+            due("11 without policeman on day " + r, force.withdraw(2), 1);
+            force.pass(1);
+            due("11 behind day " + r, force.withdraw(1), LieForce.NO);
+            due("11 already on day " + r, force.withdraw(0), LieForce.NO);
+        }
     }
 
     private static void turning() {
@@ -152,7 +228,7 @@ public final class DaysTest {
             due("13 as it was at " + left, Checks.stand(force).equals(stood[left]) ? 1 : 0, 1);
         }
         due("13 no more", force.undo(), LieForce.NO);
-        unchanged("13 no", force, stood[0]);
+        due("13 no is no undoing", force.count(0), 4);
     }
 
     private static void undoingTheLastEight() {
@@ -170,6 +246,32 @@ public final class DaysTest {
         force.turn(1);
         due("13 a new one", force.undo(), 0);
         due("13 turned again", force.fact(1), 0);
+    }
+
+    private static void undoingManyDaysAtOnce() {
+        LieForce force = Checks.laid("s0,0,0,0;s1,0,0,1;r20;");
+        force.pass(2);
+        force.pass(30);
+        due("13 two times", force.count(7), 2);
+        due("13 undo() of thirty", force.undo(), 1);
+        due("13 days then", force.count(4), 2);
+        due("13 served then", force.saying(0, 6), 2);
+        due("13 undo() of two", force.undo(), 0);
+        due("13 no days", force.count(4), 0);
+    }
+
+    private static void undoingASaying() {
+        LieForce force = Checks.laid("s0,0,0,0;".repeat(8));
+        due("13 the ninth", force.say(1, 6, 7, 5), 8);
+        due("13 undo() of it", force.undo(), 0);
+        due("13 eight again", force.count(0), 8);
+        due("13 room again", force.say(4, 2, 3, 4), 8);
+        int[] want = {4, 2, 3, 4, 0, 0, 0};
+        for (int what = 0; what < 7; what++) due("13 saying(8, " + what + ")", force.saying(8, what), want[what]);
+        force.withdraw(8);
+        force.undo();
+        due("13 withdrawn no more", force.saying(8, 5), 0);
+        due("13 its policeman is back", force.saying(8, 6), 0);
     }
 
     private static void whatIsNoneToUndo() {

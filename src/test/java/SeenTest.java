@@ -4,11 +4,16 @@ public final class SeenTest {
 
     public static void main(String[] args) {
         see();
+        seeTheLastOne();
         forget();
         worlds();
+        theLastWorld();
         whatHasNone();
+        seenStays();
         must();
+        mustOfEveryFact();
         liars();
+        liarsInEachWorldByItself();
         nothingChanges();
         checks.end();
     }
@@ -27,6 +32,18 @@ public final class SeenTest {
         due("21 all six count", force.worlds(1), 2);
     }
 
+    private static void seeTheLastOne() {
+        LieForce force = Checks.laid("s0,0,0,0;".repeat(8));
+        due("21 no ninth yet", force.see(8, true), LieForce.BAD);
+        force.say(0, 6, 0, 0);
+        due("21 the ninth", force.see(8, true), 1);
+        due("21 no tenth", force.see(9, true), LieForce.BAD);
+        due("21 it counts", force.worlds(1), 1);
+        force.withdraw(7);
+        due("21 a withdrawn one", force.see(7, false), 2);
+        due("21 it has none anyway", force.worlds(0), 32);
+    }
+
     private static void forget() {
         LieForce force = Checks.laid("s0,0,0,0;s0,1,0,1;");
         due("22 none", force.forget(), 0);
@@ -37,6 +54,10 @@ public final class SeenTest {
         due("22 every world", force.worlds(0), 64);
         due("22 seen anew", force.see(1, false), 1);
         due("22 the new one alone", force.worlds(1), 2);
+        for (int i = 2; i <= 6; i++) force.see(0, true);
+        due("22 full", force.see(0, true), LieForce.FULL);
+        due("22 six", force.forget(), 6);
+        due("22 none again", force.forget(), 0);
     }
 
     private static void worlds() {
@@ -60,6 +81,19 @@ public final class SeenTest {
         force.turn(0);
         force.see(0, true);
         due("23 whatever the facts are now", force.worlds(0), 32);
+    }
+
+    /** Six that are SEEN leave one world, each of the 64 in its turn. */
+    private static void theLastWorld() {
+        for (int world = 0; world < 64; world++) {
+            LieForce force = Checks.laid("s0,0,0,0;s0,1,0,0;s0,2,0,0;s0,3,0,0;s0,4,0,0;s0,5,0,0;");
+            for (int f = 0; f < 6; f++) force.see(f, (world >> f & 1) == 0);
+            due("23 one world", force.worlds(0), 1);
+            due("23 the lowest of one", force.worlds(1), world);
+            due("25 liars in world " + world, force.liars(0), world == 63 ? 0 : 1);
+            due("25 world " + world, force.liars(1), world);
+            for (int f = 0; f < 6; f++) due("24 must(" + f + ") in " + world, force.must(f), world >> f & 1);
+        }
     }
 
     private static void whatHasNone() {
@@ -88,6 +122,29 @@ public final class SeenTest {
         due("23 it is seen still", force.count(6), 1);
     }
 
+    /** What is SEEN stays by DAYS, by FACTS that TURN and by all that is UNDONE; it is of a SAYING's number. */
+    private static void seenStays() {
+        LieForce force = Checks.laid("s0,0,0,0;s1,1,7,0;r3;");
+        force.see(0, true);
+        force.pass(2);
+        force.turn(0);
+        due("23 what is seen stays", force.worlds(0) * 100 + force.worlds(1), 3200);
+        force.undo();
+        force.undo();
+        due("23 it stays, though all is undone", force.count(6), 1);
+        force.say(0, 1, 0, 0);
+        force.see(2, false);
+        due("23 of the third", force.worlds(1), 2);
+        force.undo();
+        due("23 it is not there", force.worlds(1), 0);
+        force.say(0, 5, 0, 0);
+        due("23 another one by its number", force.worlds(1), 32);
+        force.pass(2);
+        due("23 days alone change nothing", force.worlds(1), 32);
+        force.pass(1);
+        due("23 those who have fallen are withdrawn", force.worlds(1), LieForce.NONE);
+    }
+
     private static void must() {
         LieForce force = Checks.laid("s1,0,7,0;s0,2,0,0;");
         for (int f = 0; f < 6; f++) due("24 all worlds " + f, force.must(f), 2);
@@ -98,6 +155,40 @@ public final class SeenTest {
         force.see(0, true);
         due("24 no worlds", force.must(0), LieForce.NONE);
         due("24 bad comes ahead of none", force.must(6), LieForce.BAD);
+    }
+
+    private static void mustOfEveryFact() {
+        LieForce force = Checks.laid("s1,0,1,0;s1,8,9,0;s4,4,5,0;");
+        force.see(0, false);
+        force.see(1, false);
+        force.see(2, false);
+        int[] want = {1, 1, 0, 0, 2, 2};
+        for (int f = 0; f < 6; f++) due("24 of every fact: " + f, force.must(f), want[f]);
+        LieForce last = Checks.laid("s0,5,0,0;");
+        last.see(0, false);
+        due("24 the last fact is so", last.must(5), 1);
+        last.forget();
+        last.see(0, true);
+        due("24 the last fact is not so", last.must(5), 0);
+        last.see(0, false);
+        due("24 no worlds, the last fact", last.must(5), LieForce.NONE);
+        due("24 no worlds, no fact", last.must(-1), LieForce.BAD);
+    }
+
+    /** FACTS make one PERSON or another a liar, but none makes more than one at a time. */
+    private static void liarsInEachWorldByItself() {
+        LieForce force = Checks.laid("s0,0,0,0;s0,6,0,5;s0,6,0,5;");
+        due("25 one in each world", force.liars(0), 1);
+        due("25 the lowest world", force.liars(1), 0);
+        force.see(0, false);
+        due("25 the other one", force.liars(0), 1);
+        due("25 the lowest world of the other one", force.liars(1), 1);
+        force.withdraw(1);
+        due("25 one lie is withdrawn", force.liars(0), 1);
+        force.forget();
+        force.withdraw(2);
+        due("25 both are withdrawn", force.liars(0), 0);
+        due("25 the world by which all is so", force.liars(1), 1);
     }
 
     private static void liars() {

@@ -4,16 +4,26 @@ public final class TextTest {
 
     public static void main(String[] args) {
         newObject();
+        newObjectsAreAlike();
         writing();
+        writingToTheLastLetter();
         wiping();
+        wipingLeavesTheRest();
         faults();
+        numbersAtTheirBounds();
+        theFirstFault();
+        factsToldAgain();
         laying();
+        layingAsManyAsThereCanBe();
+        terms();
         layingClearsWhatWas();
         layingAfterLookingAhead();
         sayings();
+        sayingsSuchAsThereAre();
         truths();
         facts();
         clashes();
+        clashesWithItself();
         checks.end();
     }
 
@@ -39,6 +49,16 @@ public final class TextTest {
         due("1 all have served", force.count(3), 6);
     }
 
+    /** What is done to one force is not done to the next. */
+    private static void newObjectsAreAlike() {
+        String stood = Checks.stand(new LieForce());
+        LieForce used = Checks.laid("f1;s1,0,0,0;r1;");
+        used.pass(2);
+        used.see(0, true);
+        used.keep();
+        due("1 another one", Checks.stand(new LieForce()).equals(stood) ? 1 : 0, 1);
+    }
+
     private static void writing() {
         LieForce force = new LieForce();
         for (int letter : Checks.outside(32, 126)) due("2 write(" + letter + ")", force.write(letter), LieForce.BAD);
@@ -48,6 +68,28 @@ public final class TextTest {
         due("2 full", force.write('f'), LieForce.FULL);
         due("2 bad comes ahead of full", force.write(31), LieForce.BAD);
         due("2 nothing changes", force.count(9), 200);
+    }
+
+    /** A TEXT of 200 letters, told to its last one. */
+    private static void writingToTheLastLetter() {
+        String most = "s0,0,0,0;".repeat(9) + "f0;".repeat(37) + "f00;r10;";
+        due("2 how many letters", most.length(), 200);
+        LieForce force = Checks.written(most);
+        due("2 no fault in 200", force.fault(), LieForce.NONE);
+        due("2 the 201st", force.write('x'), LieForce.FULL);
+        due("2 it is not written", force.fault(), LieForce.NONE);
+        due("2 laid", force.lay(), 9);
+        due("2 by the last item", force.saying(0, 6), 0);
+        force.pass(9);
+        due("2 nine days of ten", force.count(3), 0);
+        force.pass(1);
+        due("2 ten days", force.count(3), 9);
+        due("2 wiped", force.wipe(), 200);
+        due("2 room again", force.write('f'), 1);
+        LieForce open = Checks.written(most.substring(0, 196) + "r100");
+        due("2 the end of the last item has no room", open.write(';'), LieForce.FULL);
+        due("2 a fault in the last item", open.fault(), 196);
+        due("2 a fault of the last letter", Checks.written(most.substring(0, 196) + "r1;f").fault(), 199);
     }
 
     private static void wiping() {
@@ -63,6 +105,18 @@ public final class TextTest {
         Checks.write(force, "f0");
         due("3 nothing is left of what was", force.fault(), 0);
         due("3 nothing to lay", force.lay(), LieForce.NO);
+    }
+
+    private static void wipingLeavesTheRest() {
+        LieForce force = Checks.laid("f0;s0,0,0,0;s0,1,0,1;r3;");
+        force.pass(2);
+        force.turn(3);
+        force.see(0, true);
+        force.keep();
+        String stood = Checks.stand(force);
+        due("3 wipe()", force.wipe(), 24);
+        Checks.write(force, "f0;s0,0,0,0;s0,1,0,1;r3;");
+        due("3 all else stays", Checks.stand(force).equals(stood) ? 1 : 0, 1);
     }
 
     private static void faults() {
@@ -88,6 +142,52 @@ public final class TextTest {
         due("4 nothing changes", Checks.stand(force).equals(stood) ? 1 : 0, 1);
     }
 
+    /** For each number of each ITEM the last ones that are told and the first that are not. */
+    private static void numbersAtTheirBounds() {
+        bounds("f", ";", 0, 5);
+        bounds("r", ";", 1, 20);
+        bounds("s", ",0,0,0;", 0, 4);
+        for (int kind = 0; kind <= 4; kind++) {
+            bounds("s" + kind + ",", ",0,0;", 0, 11);
+            bounds("s" + kind + ",0,", ",0;", 0, 11);
+            bounds("s" + kind + ",0,0,", ";", 0, 5);
+        }
+    }
+
+    private static void bounds(String ahead, String behind, int lowest, int highest) {
+        for (int number = 0; number <= 99; number++) {
+            int want = number >= lowest && number <= highest ? LieForce.NONE : 0;
+            due("4 " + ahead + number + behind, Checks.written(ahead + number + behind).fault(), want);
+            if (number > 9) continue;
+            due("4 " + ahead + "0" + number + behind, Checks.written(ahead + "0" + number + behind).fault(), want);
+            due("4 " + ahead + "00" + number + behind, Checks.written(ahead + "00" + number + behind).fault(), 0);
+        }
+        due("4 " + ahead + "-1" + behind, Checks.written(ahead + "-1" + behind).fault(), 0);
+    }
+
+    private static void theFirstFault() {
+        due("4 of two faults", Checks.written("f0;f6;f7;").fault(), 3);
+        due("4 at once", Checks.written("x").fault(), 0);
+        due("4 a number ahead of a sign", Checks.written("r1;r21;;").fault(), 3);
+        due("4 the last item", Checks.written("f0;s0,0,0,0;r0;").fault(), 12);
+        String letters = "fsr";
+        for (int letter = 32; letter <= 126; letter++) {
+            String numbers = letter == 's' ? "0,0,0,0;" : "1;";
+            int want = letters.indexOf(letter) >= 0 ? LieForce.NONE : 4;
+            due("4 an item of " + letter, Checks.written("f05;" + (char) letter + numbers).fault(), want);
+        }
+    }
+
+    private static void factsToldAgain() {
+        for (int f = 0; f < 6; f++) {
+            for (int times = 0; times <= 4; times++) {
+                LieForce force = Checks.laid("s0,0,0,0;" + ("f" + f + ";").repeat(times));
+                due("5 fact " + f + " told " + times + " times", force.fact(f), times % 2);
+                due("5 no other one " + f + " " + times, force.count(5), times % 2);
+            }
+        }
+    }
+
     private static void laying() {
         String[] none = {"", "f0;f1;r3;", "s0,0,0,0;f", "s0,0,0,9;", "f6;s0,0,0,0;"};
         for (String text : none) {
@@ -110,6 +210,34 @@ public final class TextTest {
         due("5 four days by no r", usual.count(3), 0);
         usual.pass(1);
         due("5 five days by no r", usual.count(3), 1);
+    }
+
+    private static void layingAsManyAsThereCanBe() {
+        String text = "f0;";
+        for (int sayings = 1; sayings <= 9; sayings++) {
+            text += "s0,0,0,0;";
+            LieForce force = Checks.written(text);
+            due("5 lay() of " + sayings, force.lay(), sayings);
+            due("5 how many of " + sayings, force.count(0), sayings);
+        }
+        LieForce ten = Checks.written(text + "s0,0,0,0;");
+        due("5 lay() of ten", ten.lay(), LieForce.NO);
+        due("5 as at first", ten.count(0), 8);
+    }
+
+    /** R DAYS by the ITEM r: none has served them a DAY ahead, all have on the DAY. */
+    private static void terms() {
+        String[] items = {"r1;", "r20;", "", "r20;r1;", "r1;r20;", "r2;r3;"};
+        int[] terms = {1, 20, 5, 1, 20, 3};
+        for (int i = 0; i < items.length; i++) {
+            LieForce force = Checks.laid("s0,0,0,0;" + items[i]);
+            if (terms[i] > 1) force.pass(terms[i] - 1);
+            due("5 a day ahead by " + items[i], force.count(3), 0);
+            force.pass(1);
+            due("5 on the day by " + items[i], force.count(3), 1);
+            force.pass(1);
+            due("5 behind the day by " + items[i], force.count(3), 1);
+        }
     }
 
     private static void layingClearsWhatWas() {
@@ -168,6 +296,26 @@ public final class TextTest {
         force.turn(2);
         due("6 served anew", force.saying(1, 6), 0);
         due("6 served on", force.saying(0, 6), 7);
+    }
+
+    /** A SAYING that is SAID is one, until it is UNDONE. */
+    private static void sayingsSuchAsThereAre() {
+        LieForce force = Checks.laid("s0,0,0,0;");
+        due("6 not yet", force.saying(1, 0), LieForce.BAD);
+        due("8 not yet", force.clash(0, 1), LieForce.BAD);
+        force.say(0, 6, 0, 0);
+        due("6 said", force.saying(1, 1), 6);
+        due("8 said", force.clash(0, 1), 1);
+        force.undo();
+        due("6 undone", force.saying(1, 1), LieForce.BAD);
+        due("8 undone", force.clash(1, 0), LieForce.BAD);
+        due("11 undone", force.withdraw(1), LieForce.BAD);
+        due("21 undone", force.see(1, false), LieForce.BAD);
+        for (int s = 1; s <= 8; s++) force.say(2, 0, 0, 0);
+        due("6 the ninth", force.saying(8, 0), 2);
+        due("8 the ninth", force.clash(8, 0), 0);
+        due("6 no tenth", force.saying(9, 0), LieForce.BAD);
+        due("8 no tenth", force.clash(0, 9), LieForce.BAD);
     }
 
     /** Every kind by every two literals and every facts, each told by its words. */
@@ -230,5 +378,16 @@ public final class TextTest {
         due("8 two that are not there", force.clash(9, 9), LieForce.BAD);
         force.withdraw(0);
         due("8 a withdrawn one", force.clash(0, 1), 1);
+    }
+
+    /** A SAYING that never is so CLASHES with any other, one that always is with none of those that can be. */
+    private static void clashesWithItself() {
+        LieForce force = Checks.laid("s1,5,11,0;s2,5,11,0;s0,5,0,0;s1,4,10,0;");
+        int[][] want = {{-1, 1, 1, 1}, {1, -1, 0, 1}, {1, 0, -1, 1}, {1, 1, 1, -1}};
+        for (int s = 0; s < 4; s++) {
+            for (int t = 0; t < 4; t++) due("8 never so " + s + " " + t, force.clash(s, t), want[s][t]);
+        }
+        force.turn(5);
+        due("8 whatever facts there are", force.clash(0, 2), 1);
     }
 }

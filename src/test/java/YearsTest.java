@@ -4,13 +4,16 @@ public final class YearsTest {
 
     public static void main(String[] args) {
         chance();
+        chanceOfNineAndNone();
         chanceBounds();
         year();
         yearByTheCalls();
         yearBounds();
         keep();
         back();
+        backWithNothingSeen();
         count();
+        countAtTheBounds();
         constants();
         checks.end();
     }
@@ -44,6 +47,22 @@ public final class YearsTest {
         chances(two, 1, 1, 99, 100);
         // Just so by all six facts, each of which turns by one of ten: a million in all.
         chances(Checks.laid("s1,0,1,0;s1,2,3,0;s1,4,5,0;"), 3, 1, 970299, 1000000);
+    }
+
+    private static void chanceOfNineAndNone() {
+        LieForce nine = Checks.laid("s0,0,0,0;".repeat(9));
+        chances(nine, 9, 0, 1, 1);
+        chances(nine, 9, 2, 4, 5);
+        chances(nine, 9, 10, 0, 1);
+        chances(nine, 0, 10, 1, 1);
+        chances(nine, 0, 0, 1, 1);
+        LieForce none = Checks.laid("s0,6,0,0;");
+        chances(none, 0, 5, 1, 1);
+        chances(none, 1, 0, 0, 1);
+        chances(none, 1, 9, 9, 10);
+        // All six turn at once, or none does.
+        chances(Checks.laid("f0;f1;f2;f3;f4;f5;s2,0,1,0;s2,2,3,0;s2,4,5,0;"), 3, 1, 1, 1000000);
+        chances(Checks.laid("f0;f1;f2;f3;f4;f5;s2,0,1,0;s2,2,3,0;s2,4,5,0;"), 3, 10, 1, 1);
     }
 
     private static void chanceBounds() {
@@ -133,7 +152,7 @@ public final class YearsTest {
         due("29 nothing is kept", force.back(), LieForce.NO);
         force.pass(1);
         force.say(1, 0, 6, 2);
-        String first = Checks.stand(force).replaceAll("^(.*? \\d+) \\d+ \\d+ \\d+ (\\d\\d\\d\\d\\d\\d)", "$1 $2");
+        String first = Checks.stand(force);
         force.keep();
         force.undo();
         force.say(4, 3, 4, 5);
@@ -154,7 +173,7 @@ public final class YearsTest {
         due("29 the text stays", force.count(9), letters);
         due("29 none is left", force.back(), 0);
         force.forget();
-        String then = Checks.stand(force).replaceAll("^(.*? \\d+) \\d+ \\d+ \\d+ (\\d\\d\\d\\d\\d\\d)", "$1 $2");
+        String then = Checks.stand(force);
         due("29 by whom at first", force.saying(2, 3), 2);
         due("29 served at first", force.saying(0, 6), 1);
         due("29 " + first + " / " + then, sayingsOf(first).equals(sayingsOf(then)) ? 1 : 0, 1);
@@ -166,6 +185,29 @@ public final class YearsTest {
 
     private static String sayingsOf(String stood) {
         return stood.substring(stood.indexOf('|'));
+    }
+
+    /** What is KEPT comes back, but what is SEEN and THE TEXT stay as they are then. */
+    private static void backWithNothingSeen() {
+        LieForce force = Checks.laid("s0,0,0,0;s0,1,0,1;");
+        force.see(0, true);
+        force.keep();
+        force.forget();
+        force.wipe();
+        due("29 back()", force.back(), 0);
+        due("29 nothing is seen", force.count(6), 0);
+        due("29 the text is empty", force.count(9), 0);
+        force.keep();
+        force.say(0, 8, 0, 2);
+        force.see(2, true);
+        due("29 one is seen", force.worlds(1), 4);
+        due("29 back() again", force.back(), 0);
+        due("29 it is seen of one that is not there", force.worlds(0), 0);
+        due("29 room again", force.keep(), 1);
+        due("29 two", force.keep(), 2);
+        due("29 the second", force.back(), 1);
+        due("29 the first", force.back(), 0);
+        due("29 no third", force.back(), LieForce.NO);
     }
 
     private static void count() {
@@ -186,6 +228,26 @@ public final class YearsTest {
         force.pass(1);
         due("30 who have served longer", force.count(3), 2);
         due("30 both still there", force.count(2), 2);
+    }
+
+    private static void countAtTheBounds() {
+        LieForce least = Checks.laid("s0,6,0,0;");
+        int[] none = {1, 0, 0, 0, 0, 0, 0, 0, 0, 9};
+        for (int what = 0; what <= 9; what++) due("30 least: count(" + what + ")", least.count(what), none[what]);
+        LieForce most = Checks.laid("s0,0,0,0;".repeat(9) + "r1;");
+        for (int f = 1; f < 6; f++) most.turn(f);
+        for (int i = 0; i < 6; i++) most.see(i, true);
+        for (int i = 0; i < 2; i++) most.keep();
+        for (int i = 0; i < 10; i++) most.pass(30);
+        while (most.write(' ') > 0) { }
+        int[] all = {9, 0, 9, 9, 300, 5, 6, 8, 2, 200};
+        for (int what = 0; what <= 9; what++) due("30 most: count(" + what + ")", most.count(what), all[what]);
+        most.turn(0);
+        due("30 six facts", most.count(5), 6);
+        due("30 no policemen", most.count(2) + most.count(3), 0);
+        for (int s = 0; s < 9; s++) most.withdraw(s);
+        due("30 nine withdrawn", most.count(1), 9);
+        due("30 nine sayings all the same", most.count(0), 9);
     }
 
     private static void constants() {
