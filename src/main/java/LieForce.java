@@ -631,10 +631,12 @@ public final class LieForce {
         }
 
         void dropOldest() {
+            int last = stood.length - 1;
+            if (last < 0) return;
             Force oldest = stood[0];
-            for (int i = 1; i < stood.length; i++) stood[i - 1] = stood[i];
-            stood[stood.length - 1] = oldest;
-            size = stood.length - 1;
+            for (int i = 0; i < last; i++) stood[i] = stood[i + 1];
+            stood[last] = oldest;
+            size = last;
         }
 
         boolean takeLast(Force into) {
